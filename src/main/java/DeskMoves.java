@@ -1362,7 +1362,7 @@ public final class DeskMoves {
             open(i);
             for (int c = 0; c < clerks; c++) {
                 int targets = targetsOf(c);
-                for (int to = 0; to < SEARCHED && targets != 0; to++) {
+                for (int to = 0; to < SEARCHED && targets >> to != 0; to++) {
                     if ((targets >> to & 1) != 0 && isLet(c, to)) {
                         add(codeAfter(i, c, to), i);
                     }
@@ -1371,13 +1371,15 @@ public final class DeskMoves {
         }
 
         void open(int i) {
-            full = 0;
             int rest = code[i];
+            int taken = 0;
             for (int c = 0; c < clerks; c++) {
-                at[c] = rest & 7;
-                full |= 1 << at[c];
+                int desk = rest & 7;
+                at[c] = desk;
+                taken |= 1 << desk;
                 rest >>= 3;
             }
+            full = taken;
         }
 
         /** Bits of the empty desks behind a door of the clerk's. */
@@ -1567,7 +1569,7 @@ public final class DeskMoves {
             for (int c = 0; c < ways.clerks; c++) {
                 int clerk = ways.who[c];
                 int targets = clerk == ill ? 0 : ways.targetsOf(c);
-                for (int to = 0; to < SEARCHED && targets != 0; to++) {
+                for (int to = 0; to < SEARCHED && targets >> to != 0; to++) {
                     if ((targets >> to & 1) != 0 && ways.isLet(c, to)) {
                         int price = ways.priceOf(c, to);
                         reach(ways.numberOf(ways.codeAfter(i, c, to)), cost[i] + price);
