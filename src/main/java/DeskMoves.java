@@ -1052,7 +1052,7 @@ public final class DeskMoves {
                 return readNot(depth);
             }
             if (!begun && tape.look() == '(') {
-                return opens(depth, '(') && readCondition(depth + 1, false) && tape.takes(')');
+                return depth < NESTED && tape.takes('(') && readCondition(depth + 1, false) && tape.takes(')');
             }
             if (!begun && !readSum(depth)) {
                 return false;
@@ -1066,15 +1066,11 @@ public final class DeskMoves {
         }
 
         private boolean readNot(int depth) {
-            if (!opens(depth, '!') || !readUnit(depth + 1, false)) {
+            if (depth >= NESTED || !tape.takes('!') || !readUnit(depth + 1, false)) {
                 return false;
             }
             emit(-'!');
             return true;
-        }
-
-        private boolean opens(int depth, int sign) {
-            return depth < NESTED && tape.takes(sign);
         }
 
         private boolean readSum(int depth) {
@@ -1114,7 +1110,7 @@ public final class DeskMoves {
         private boolean readAtom(int depth) {
             int sign = tape.look();
             if (sign == '[') {
-                return opens(depth, '[') && readSum(depth + 1) && tape.takes(']');
+                return depth < NESTED && tape.takes('[') && readSum(depth + 1) && tape.takes(']');
             }
             if (isDigit(sign)) {
                 return readNumber();

@@ -401,6 +401,11 @@ public final class OracleTests {
         }
 
         String lawText(boolean spoil) {
+            if (draw(2) == 0) {
+                String[] plain = {"y:2-b", "y:1-q", "y:b-q", "y:b=1|q=1?1", "y:q<1?1", "y:b>1&q=0?r+1;y:b<2?1",
+                    "y:c+b>2?1;y:q", "y:3-b-q", "y:[b+q+c]/2", "y:t>f?b+1;y:2-q", "y:9-l*p", "y:b*2-f+r"};
+                return spoiled(plain[draw(plain.length)], spoil);
+            }
             StringBuilder s = new StringBuilder();
             int clauses = draw(1, 3);
             for (int i = 0; i < clauses; i++) {

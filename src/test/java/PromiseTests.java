@@ -135,6 +135,12 @@ public final class PromiseTests {
         for (int i = 1; i <= 7; i++) {
             due("feed", x.feed(0x41414141, 0x41414141, 0x41414141, 0x41414141, 0x41414141), 20 * i);
         }
+        x.end(139);
+        due("twenty bytes more reach 159", x.feed(0x41414141, 0x41414141, 0x41414141, 0x41414141, 0x41414141), 159);
+        due("and not twice", x.feed(0x41414141, 0x41414141, 0x41414141, 0x41414141, 0x41414141), NONE);
+        due("nor eight of them", x.feed(0, 0x41414141, 0x41414141, 0, 0), NONE);
+        due("nor four", x.feed(0, 0, 0, 0x41414141, 0), NONE);
+        x.end(140);
         due("up to 159", x.feed(0x41414141, 0x41414141, 0x41414141, 0x41414141, 0x00414141), 159);
         due("161 are refused", x.feed(0x41000000, 0, 0, 0, 0x41), NONE);
         due("and change nothing", x.told(3), 159);
@@ -248,6 +254,24 @@ public final class PromiseTests {
         fault(1, "y:1=1?(", 6);
         fault(1, "y:1=1|2<3&4>5?6", NONE);
         fault(1, "y:1=1|2?", 7);
+        fault(1, "y:1=1|?", 6);
+        fault(1, "y:1=1|&", 6);
+        fault(1, "y:1=1||", 6);
+        fault(1, "y:1=1&?", 6);
+        fault(1, "y:1=1&|", 6);
+        fault(1, "y:1=1&&", 6);
+        fault(1, "y:1=?", 4);
+        fault(1, "y:1=&", 4);
+        fault(1, "y:!?", 3);
+        fault(1, "y:!!&", 4);
+        fault(1, "y:(?", 3);
+        fault(1, "y:()", 3);
+        fault(1, "y:1*+", 4);
+        fault(1, "y:1+;", 4);
+        fault(1, "y:1/;", 4);
+        fault(1, "y:1=1?[[[[[[1]]]]]]", NONE);
+        fault(1, "y:1=1?[[[[[[[", 12);
+        fault(1, "y:[[[[[[1]]]]]]=[[[[[[1]]]]]]?1", NONE);
         fault(1, "y:1=!", 4);
         fault(1, "y:1=(", 4);
         fault(1, "y:!1", 4);
@@ -338,6 +362,7 @@ public final class PromiseTests {
         due("a plan with a fault", text(x, 2, "Cc,"), NONE);
         due("the plan stays", x.told(4), 2);
         x.law(3);
+        due("nothing is let", x.all(0), 1);
         x.set(0, 0, 7);
         x.set(0, 1, 7);
         x.wish(0, 1);
@@ -359,6 +384,13 @@ public final class PromiseTests {
         due("worths", x.seated(NONE), 0);
         due("best", x.best(NONE), 0);
         due("all", x.all(0), 12);
+        due("another, smaller", text(x, 0, "A.B;ab,bc"), 3);
+        due("all of that", x.all(0), 3);
+        due("far", x.all(1), 1);
+        due("count", x.count(1), 2);
+        due("best of that", x.best(NONE), 0);
+        due("another, larger", text(x, 0, GRID), 6);
+        due("all of that", x.all(0), 360);
     }
 
     private static void desks() {
@@ -616,6 +648,13 @@ public final class PromiseTests {
         }
         due("no more", x.undo(), NONE);
         sits(x, ".A");
+        DeskMoves ring = office("A......;ab,bc,cd,de,ef,fg,ga");
+        for (int i = 1; i <= 110; i++) {
+            ring.move(0, i % 7);
+        }
+        for (int i = 0; i < 100; i++) {
+            due("diary " + i, ring.diary(i), (i + 11) % 7);
+        }
         DeskMoves y = office("L.K;ab,bc");
         y.move(11, 1);
         due("16 times the clerk and the desk", y.diary(0), 16 * 11 + 1);
@@ -813,8 +852,42 @@ public final class PromiseTests {
         y.set(0, 0, 3);
         y.law(NONE);
         due("without the law", y.all(0), 3);
+        due("by who sits beside", ruled("ABCD..;ab,bc,cd,de,ef,fa,ad;AB,CD", "y:2-b").all(0), 313);
+        due("by who quarrels", ruled("ABCD..;ab,bc,cd,de,ef,fa,ad;AB,CD", "y:1-q").all(0), 21);
+        due("by both", ruled("ABC...;ab,bc,cd,de,ef,fa,ad;AB,BC", "y:q=1&c<2?1;y:b=1?1").all(0), 12);
+        due("far by both", ruled("ABC...;ab,bc,cd,de,ef,fa,ad;AB,BC", "y:q=1&c<2?1;y:b=1?1").all(1), 6);
         due("more than 8", office(BIG).all(0), HIDDEN);
         due("no office", new DeskMoves().all(0), HIDDEN);
+        changing();
+    }
+
+    /** Each change is seen by the next search. */
+    private static void changing() {
+        DeskMoves x = ruled("A..;ab,bc", "y:[t-f]*[p-r]");
+        x.wish(2, 0);
+        due("onwards", x.all(0) * 100 + x.cheapest() + 1, 303);
+        x.move(0, 1);
+        due("from b", x.all(0) * 100 + x.cheapest() + 1, 202);
+        x.image();
+        x.move(0, 2);
+        due("from c", x.all(0) * 100 + x.cheapest() + 1, 101);
+        x.undo();
+        due("undone", x.all(0) * 100 + x.cheapest() + 1, 202);
+        x.set(0, 0, 1);
+        due("none is let", x.all(0) * 100 + x.cheapest() + 1, 100);
+        x.set(0, 1, 3);
+        due("with more papers", x.all(0) * 100 + x.cheapest() + 1, 204);
+        x.move(0, 2);
+        x.back();
+        due("back", x.all(0) * 100 + x.cheapest() + 1, 204);
+        x.set(0, 0, 5);
+        due("backwards", x.all(0) * 100 + x.cheapest() + 1, 200);
+        x.law(NONE);
+        due("without a law", x.all(0) * 100 + x.cheapest() + 1, 304);
+        x.law(0);
+        due("with it again", x.all(0) * 100 + x.cheapest() + 1, 200);
+        x.wish(2, NONE);
+        due("without a wish", x.all(0) * 100 + x.cheapest() + 1, 201);
     }
 
     private static void counting() {
@@ -830,7 +903,11 @@ public final class PromiseTests {
         due("a ring of eight", y.all(0), 56);
         due("count 28", y.count(28), 1);
         due("count 27", y.count(27), 2);
-        due("a long way", office(THETA).all(1) > 60, false);
+        DeskMoves z = office("ABCDEF.;ab,bc,cd,de,ef,fg,ga,ac");
+        due("a long way", z.all(1), 63);
+        due("count 59", z.count(59), 4);
+        due("count 60", z.count(60), 4);
+        due("not told", z.count(63), HIDDEN);
         due("more than 8", office(BIG).count(0), HIDDEN);
         due("no office", new DeskMoves().count(0), HIDDEN);
     }
@@ -887,6 +964,7 @@ public final class PromiseTests {
         due("twelve", office(BIG).sort(), 2);
         due("theta", office(THETA).sort(), 3);
         due("theta by other names", office("ABCDEF.;ge,ec,ca,af,fd,dg,gb,ba").sort(), 3);
+        due("theta, none of them a", office("ABCDEF.;ab,bc,cd,de,ef,fa,bg,ge").sort(), 3);
         due("a way of two elsewhere", office("ABCDEF.;ab,bc,cd,de,ef,fa,ag,gc").sort(), 4);
         due("a door across", office("ABCDEF.;ab,bc,cd,de,ef,fg,ga,ad").sort(), 5);
         due("a door beside", office("ABCDEF.;ab,bc,cd,de,ef,fg,ga,ac").sort(), 5);
@@ -1033,6 +1111,22 @@ public final class PromiseTests {
         x.worth(1, 1, 9);
         due("another's worth", x.gains(0, 0), 0);
         due("of several the lowest", office("AB.;ab").gains(1, 1), 0);
+        DeskMoves y = market("AB.;ab", new int[] {99, 0, 0}, new int[] {5, 1, 0});
+        due("99 is told, no more", y.gains(1, 0), 0);
+        DeskMoves z = market("AB.;ab", new int[] {5, 0, 0}, new int[] {99, 0, 0});
+        due("0 is told for others", z.gains(0, 0), 5);
+        DeskMoves v = market("ABC.;ab", new int[] {50, 49, 0, 0}, new int[] {60, 40, 30, 0}, new int[] {70, 60, 0, 5});
+        int[] alone = {v.gains(0, 0), v.gains(1, 0), v.gains(2, 0)};
+        for (int c = 0; c < 3; c++) {
+            DeskMoves once = market("ABC.;ab", new int[] {50, 49, 0, 0}, new int[] {60, 40, 30, 0}, new int[] {70, 60, 0, 5});
+            due("one's lie is not another's", once.gains(c, 0), alone[c]);
+        }
+        DeskMoves w = market("AB.;ab", new int[] {99, 0, 0}, new int[] {60, 20, 0});
+        due("A has what it wants", w.gains(0, 0), 0);
+        due("and tells the truth when B lies", w.gains(1, 0), 0);
+        due("A's of three", alone[0], 1);
+        due("B's of three", alone[1], 30);
+        due("C's of three", alone[2], 0);
         due("no office", new DeskMoves().gains(0, 0), NONE);
     }
 
