@@ -876,13 +876,15 @@ public final class DeskMoves {
             letters[4] = office.rank[clerk];
             letters[5] = office.papers[clerk];
             top = 0;
+            boolean skipped = false;
             for (int i = 0; i < code.length; i++) {
                 int item = code[i];
-                if (item == WORTH) {
+                if (skipped) {
+                    skipped = item != WORTH;
+                } else if (item == WORTH) {
                     return pop();
-                }
-                if (item == ASK) {
-                    i = pop() != 0 ? i : clauseEnd(i);
+                } else if (item == ASK) {
+                    skipped = pop() == 0;
                 } else if (item >= 0) {
                     push(item);
                 } else if (item >= -letters.length) {
@@ -895,15 +897,6 @@ public final class DeskMoves {
                 }
             }
             return 0;
-        }
-
-        private int clauseEnd(int from) {
-            int i = from;
-            while (i < code.length && code[i] != WORTH) {
-                i++;
-            }
-            top = 0;
-            return i;
         }
 
         private void push(int value) {

@@ -247,13 +247,17 @@ public final class BoundaryTests {
 
     private static void lookAtWorths(DeskMoves x, List<Long> seen) {
         int desks = x.told(0);
+        // Of large offices the first and the last clerks are enough, as each asks for long sums.
+        int step = desks > 6 ? 10 : 1;
         for (int c = NONE; c < 12; c++) {
             add(seen, x.seated(c));
             add(seen, x.best(c));
-            add(seen, x.gains(c, 0));
-            add(seen, x.gains(c, 1));
             add(seen, x.exchange(c));
             add(seen, x.agree(c));
+        }
+        for (int c = 0; c < 12; c += step) {
+            add(seen, x.gains(c, 0));
+            add(seen, x.gains(c, 1));
         }
         for (int one = 0; one < desks; one++) {
             for (int other = 0; other < one; other++) {
@@ -261,7 +265,7 @@ public final class BoundaryTests {
             }
         }
         // Worths are seen as the best sum falls when they are taken away.
-        for (int c = 0; c < desks; c++) {
+        for (int c = 0; c < desks; c += step) {
             for (int d = 0; d < desks; d++) {
                 if (x.worth(c, d, 0)) {
                     add(seen, x.best(NONE));
@@ -747,7 +751,10 @@ public final class BoundaryTests {
             answers("a byte of 255 at " + at, FRESH, x -> feedOne(x, place, 255), 1);
             answers("a byte of 1 at " + at, FRESH, x -> feedOne(x, place, 1), 1);
             answers("a byte of 128 at " + at, FRESH, x -> feedOne(x, place, 128), 1);
-            leaves("one byte too many at " + at, taped(160), x -> feedOne(x, place, 65), NONE);
+            for (int b : new int[] {1, 2, 65, 128, 255}) {
+                leaves("one byte too many, " + b + " at " + at, taped(160), x -> feedOne(x, place, b), NONE);
+                answers("the last byte, " + b + " at " + at, taped(159), x -> feedOne(x, place, b), 160);
+            }
         }
         says("of each number the highest first");
         DeskMoves x = new DeskMoves();
@@ -874,22 +881,30 @@ public final class BoundaryTests {
         says("The TAPE (empty then) is the OFFICE (in place of one ahead, with all that was of it but LAWS; no LAW holds then)");
         String[] next = {"A.;ab", "AB.C;ab,bc2,cd,da3;AB", "L.BA.;ab,bc,ce,de9;AL,AB", "ABCDEFGHIJK.;al"};
         for (String s : next) {
-            due("nothing is left of the one ahead: " + s, alike(() -> {
-                DeskMoves x = RICH.make();
-                x.text(1);
-                x.law(2);
-                x.holds();
-                x.gains(0, 0);
-                text(x, 0, s);
-                return x;
-            }, () -> {
-                DeskMoves x = new DeskMoves();
-                text(x, 1, "y:2-q");
-                text(x, 1, "y:9-l*p");
-                text(x, 1, "y:1=1?3");
-                text(x, 0, s);
-                return x;
-            }), true);
+            for (int between = 0; between < 3; between++) {
+                int others = between;
+                due("nothing is left of the one ahead: " + s, alike(() -> {
+                    DeskMoves x = RICH.make();
+                    x.text(1);
+                    x.law(2);
+                    x.holds();
+                    x.gains(0, 0);
+                    for (int i = 0; i < others; i++) {
+                        text(x, 0, "CBAD.;ae,eb3,bc;AD");
+                        x.set(i, 0, 3);
+                        x.all(0);
+                    }
+                    text(x, 0, s);
+                    return x;
+                }, () -> {
+                    DeskMoves x = new DeskMoves();
+                    text(x, 1, "y:2-q");
+                    text(x, 1, "y:9-l*p");
+                    text(x, 1, "y:1=1?3");
+                    text(x, 0, s);
+                    return x;
+                }), true);
+            }
         }
     }
 
@@ -975,8 +990,8 @@ public final class BoundaryTests {
         says("RANK of a CLERK (0 .. 9; 0 at first), PAPERS (0 .. 9; 1)");
         for (int c = 0; c < 11; c++) {
             int clerk = c;
-            leaves("rank at first", TWELVE, x -> x.clerk(clerk, 1), 0);
-            leaves("papers at first", TWELVE, x -> x.clerk(clerk, 2), 1);
+            answers("rank at first", TWELVE, x -> x.clerk(clerk, 1), 0);
+            answers("papers at first", TWELVE, x -> x.clerk(clerk, 2), 1);
         }
         says("COST: PAPERS times LENGTH");
         answers("nine times nine", () -> office("A.;ab9"), x -> {
@@ -996,8 +1011,8 @@ public final class BoundaryTests {
         for (int what = 0; what < 5; what++) {
             int w = what;
             outside("clerk", RICH, (x, c) -> x.clerk(c, w), 0, 2, NONE);
-            outside("clerk", TWELVE, (x, c) -> x.clerk(c, w), 0, 10, NONE);
         }
+        outside("clerk", TWELVE, (x, c) -> x.clerk(c, 3), 0, 10, NONE);
         Make star = () -> office("ABCDEFGHIJK.;ab,ac,ad,ae,af,ag,ah,ai,aj,ak,al;AB,AC,AD,AE,AF,AG,AH,AI,AJ,AK");
         leaves("all the others", star, x -> x.clerk(0, 3), 10);
         leaves("with all the others", star, x -> x.clerk(0, 4), 10);
@@ -1564,7 +1579,9 @@ public final class BoundaryTests {
         leaves("nothing wished", TWO, DeskMoves::can, NONE);
         leaves("all but one wished", wished(RING, "AB. "), DeskMoves::can, NONE);
         leaves("all but the empty one wished", wished(RING, "AB C"), DeskMoves::can, NONE);
-        leaves("one left out", wished(RING, "AB.."), DeskMoves::can, NONE);
+        leaves("the last one left out", wished(RING, "AB.."), DeskMoves::can, NONE);
+        leaves("the first one left out", wished(RING, "BC.."), DeskMoves::can, NONE);
+        leaves("all but one left out", wished(RING, "...C"), DeskMoves::can, NONE);
         leaves("none but empty ones", wished(RING, "...."), DeskMoves::can, NONE);
         leaves("all wished", wished(RING, "AB.C"), DeskMoves::can, 1);
         leaves("all of twelve but the last wished", wished(RING12, "ABCDEFGHIJK "), DeskMoves::can, NONE);
@@ -1624,7 +1641,7 @@ public final class BoundaryTests {
         says("WORTH of a DESK to a CLERK (0 .. 99; 0 at first)");
         for (int c = 0; c < 11; c++) {
             int clerk = c;
-            leaves("at first", TWELVE, x -> x.seated(clerk), 0);
+            answers("at first", TWELVE, x -> x.seated(clerk), 0);
         }
         leaves("best at first", TWELVE, x -> x.best(NONE), 0);
     }
@@ -1656,7 +1673,7 @@ public final class BoundaryTests {
         says("of several that in which the lowest CLERK has the lowest DESK, then the next one");
         for (int c = 0; c < 11; c++) {
             int clerk = c;
-            leaves("all alike", TWELVE, x -> x.best(clerk), clerk);
+            answers("all alike", TWELVE, x -> x.best(clerk), clerk);
         }
         answers("the greatest sum", TWELVE, x -> {
             for (int c = 0; c < 11; c++) {
@@ -1716,7 +1733,7 @@ public final class BoundaryTests {
         outside("clerk of twelve", TWELVE, (x, c) -> x.exchange(c), 0, 10, NONE);
         for (int c = 0; c < 11; c++) {
             int clerk = c;
-            leaves("of several its own", TWELVE, x -> x.exchange(clerk), clerk);
+            answers("of several its own", TWELVE, x -> x.exchange(clerk), clerk);
         }
         Make ring = () -> {
             DeskMoves x = office(RING12);
@@ -1727,7 +1744,7 @@ public final class BoundaryTests {
         };
         for (int c = 0; c < 11; c++) {
             int clerk = c;
-            leaves("a ring of eleven", ring, x -> x.exchange(clerk), (clerk + 1) % 11);
+            answers("a ring of eleven", ring, x -> x.exchange(clerk), (clerk + 1) % 11);
         }
         Make chain = () -> {
             DeskMoves x = office(RING12);
@@ -1738,7 +1755,7 @@ public final class BoundaryTests {
         };
         for (int c = 0; c < 11; c++) {
             int clerk = c;
-            leaves("eleven, one behind the other", chain, x -> x.exchange(clerk), clerk + 1);
+            answers("eleven, one behind the other", chain, x -> x.exchange(clerk), clerk + 1);
         }
         says("(of several its own, then the lowest)");
         answers("its own", () -> office("AB..;ab"), x -> {

@@ -70,6 +70,10 @@ public final class OracleTests {
         }
 
         void go() {
+            if (seed % 12 == 0) {
+                walk();
+                return;
+            }
             if (draw(8) == 0) {
                 anyCalls(10);
             }
@@ -81,6 +85,37 @@ public final class OracleTests {
                 tellMuch();
                 anyCalls(draw(20, 110));
             }
+        }
+
+        /** Up to the last of 512 calls: far more moves than the diary keeps, some undone, some by an image. */
+        void walk() {
+            feed(officeText(false));
+            due("text(0)", x.text(0), n.text(0));
+            while (made < 512) {
+                int which = draw(60);
+                int i = draw(97, 101);
+                switch (which) {
+                    case 0: due("image()", x.image(), n.image()); break;
+                    case 1: due("back()", x.back(), n.back()); break;
+                    case 2: case 3: case 4: due("undo()", x.undo(), n.undo()); break;
+                    case 5: case 6: case 7: due("diary(" + i + ")", x.diary(i), n.diary(i)); break;
+                    case 8: due("diary(0)", x.diary(0), n.diary(0)); break;
+                    case 9: due("told(5)", x.told(5), n.told(5)); break;
+                    case 10: due("fewest(-1)", x.fewest(-1), n.fewest(-1)); break;
+                    case 11: wish(); break;
+                    default: step(); break;
+                }
+            }
+        }
+
+        void step() {
+            int c = someClerk();
+            int d = someDesk();
+            for (int tries = 0; tries < 200 && n.let(c, d) != 1; tries++) {
+                c = draw(12);
+                d = draw(12);
+            }
+            due("move(" + c + ", " + d + ")", x.move(c, d), n.move(c, d));
         }
 
         void tellMuch() {

@@ -878,6 +878,7 @@ public final class PromiseTests {
         x.set(0, 1, 3);
         due("with more papers", x.all(0) * 100 + x.cheapest() + 1, 204);
         x.move(0, 2);
+        due("on", x.all(0) * 100 + x.cheapest() + 1, 101);
         x.back();
         due("back", x.all(0) * 100 + x.cheapest() + 1, 204);
         x.set(0, 0, 5);

@@ -1,3 +1,7 @@
+import java.nio.charset.StandardCharsets;
+import java.nio.file.Files;
+import java.nio.file.Path;
+
 /**
  * Where a text can't go on: behind each beginning every byte from 1 to 255 is tried, and the end.
  * What may follow is written out here by hand, sentence by sentence of the document's Terms.
@@ -16,6 +20,7 @@ public final class TextBoundaryTests {
     private static final String UNIT = ATOM + "!(";
 
     private static String sentence = "";
+    private static String document = "";
     private static int wrong;
     private static int asked;
 
@@ -27,8 +32,24 @@ public final class TextBoundaryTests {
         }
     }
 
+    /** The words must stand in the document, so that no test keeps a sentence that is not there. */
     private static void says(String words) {
         sentence = words;
+        if (!document.isEmpty() && !document.contains(words)) {
+            wrong++;
+            System.out.println("the document does not say '" + words + "'");
+        }
+    }
+
+    private static void readDocument() {
+        Path path = Path.of(System.getProperty("deskmoves.shared", "../shared"), "DOC.md");
+        if (Files.isReadable(path)) {
+            try {
+                document = Files.readString(path, StandardCharsets.UTF_8).replaceAll("\\s+", " ");
+            } catch (java.io.IOException e) {
+                document = "";
+            }
+        }
     }
 
     private static DeskMoves fed(String s) {
@@ -88,12 +109,12 @@ public final class TextBoundaryTests {
     }
 
     private static void seats() {
-        says("SEATS: for each DESK (2 .. 12; letters a .. l in this order) a CLERK, a letter A .. L, or a dot (EMPTY)");
+        says("SEATS: for each DESK (2 .. 12; letters a .. l in this order) a CLERK, a letter A .. L, each once at most, or a dot (EMPTY)");
         goes(OFFICE, "", CLERKS + ".");
         goes(OFFICE, ".", CLERKS + ".");
         goes(OFFICE, "ABCDEFGHIJ.", "KL.;");
         goes(OFFICE, "A..........", without(CLERKS, "A") + ".;");
-        says("each once at most");
+        says("a CLERK told twice");
         goes(OFFICE, "A", without(CLERKS, "A") + ".");
         goes(OFFICE, "L", without(CLERKS, "L") + ".");
         goes(OFFICE, "F.", without(CLERKS, "F") + ".;");
@@ -337,6 +358,7 @@ public final class TextBoundaryTests {
     }
 
     public static void main(String[] args) {
+        readDocument();
         seats();
         doors();
         quarrels();
