@@ -1401,6 +1401,8 @@ public final class BoundaryTests {
         leaves("the first of one", one, x -> x.fewest(0), 1);
         leaves("behind it", one, x -> x.fewest(1), NONE);
         leaves("eight desks", EIGHT, x -> x.fewest(NONE), 3);
+        leaves("eight desks", EIGHT, x -> x.fewest(0), 102);
+        leaves("eight desks", EIGHT, x -> x.fewest(1), 7);
         leaves("eight desks", EIGHT, x -> x.fewest(2), 16);
         leaves("nine desks", NINE, x -> x.fewest(NONE), HIDDEN);
         leaves("nine desks", NINE, x -> x.fewest(0), HIDDEN);
@@ -1434,6 +1436,7 @@ public final class BoundaryTests {
                 return x.cheapest();
             }, costs[i]);
         }
+        answers("only through doors", wished("A..;ac5,cb7", " A "), DeskMoves::cheapest, 12);
         answers("the dearest move", wished("A.;ab9", ".A"), x -> {
             x.set(0, 1, 9);
             return x.cheapest();
@@ -1464,7 +1467,14 @@ public final class BoundaryTests {
         leaves("none but the one that is", stuck, x -> x.all(0), 1);
         leaves("no move far", stuck, x -> x.all(1), 0);
         answers("none is let", () -> ruled("A.;ab", "y:0"), x -> 10 * x.all(0) + x.all(1), 10);
-        answers("the most", () -> office("ABCDEFG.;ab,bc,cd,de,ef,fg,gh,ha,ac"), x -> x.all(0), 40320);
+        String[] most = {"A.;ab", "AB.;ab,bc,ca", "ABC.;ab,bc,cd,da,ac", "ABCD.;ab,bc,cd,de,ea,ac",
+            "ABCDE.;ab,bc,cd,de,ef,fa,ac", "ABCDEF.;ab,bc,cd,de,ef,fg,ga,ac", "ABCDEFG.;ab,bc,cd,de,ef,fg,gh,ha,ac"};
+        int seatings = 1;
+        for (int i = 0; i < most.length; i++) {
+            String s = most[i];
+            seatings *= i + 2;
+            answers("the most of " + (i + 2) + " desks", () -> office(s), x -> x.all(0), seatings);
+        }
         answers("six clerks on eight desks", () -> office("ABCDEF..;ab,bc,cd,de,ef,fg,gh,ha,ac"), x -> x.all(0), 20160);
         answers("one clerk on eight desks", () -> office("A.......;ab,bc,cd,de,ef,fg,gh"), x -> 100 * x.all(0) + x.all(1), 807);
     }
@@ -1513,6 +1523,8 @@ public final class BoundaryTests {
         leaves("that its desk be empty", wished("A.;ab", ". "), x -> x.ill(0), 0);
         leaves("another's stays", wished("A.B;ab,bc", ". A"), x -> x.ill(0), 0);
         leaves("another's stays", wished("A.B;ab,bc", ".B "), x -> x.ill(0), 1);
+        leaves("it makes no moves to the first desk", wished(".AB;ab,bc", "  ."), x -> x.ill(0), NONE);
+        leaves("nor to the last", wished("BA.;ab,bc", ".  "), x -> x.ill(0), NONE);
         answers("from where it sits now", wished("A..;ab,bc", " A "), x -> x.move(0, 1) + 10 * x.ill(0), 1);
     }
 
@@ -1769,6 +1781,18 @@ public final class BoundaryTests {
             x.worth(1, 2, 3);
             return x.exchange(1);
         }, 2);
+        says("else those who point to one another in a ring get what they point to");
+        answers("one who is content", () -> office("AB.;ab"), x -> {
+            x.worth(0, 1, 9);
+            x.worth(1, 1, 9);
+            return 10 * x.exchange(0) + x.exchange(1);
+        }, 1);
+        answers("two, and one who is not of them", () -> office("ABC.;ab"), x -> {
+            x.worth(0, 1, 9);
+            x.worth(1, 2, 9);
+            x.worth(2, 1, 9);
+            return 100 * x.exchange(0) + 10 * x.exchange(1) + x.exchange(2);
+        }, 21);
         says("the lowest of these CLERKS gets that");
         answers("two point to the empty one", () -> office("BA.;ab"), x -> {
             x.worth(0, 2, 1);
