@@ -908,6 +908,26 @@ public final class BoundaryTests {
         }
     }
 
+    /** Offices of two to eight desks and back, each searched in the same object. */
+    private static void growing() {
+        promise = 20;
+        says("in place of one ahead");
+        DeskMoves x = new DeskMoves();
+        int[] sizes = {2, 3, 4, 5, 6, 7, 8, 2, 8, 5};
+        for (int size : sizes) {
+            StringBuilder s = new StringBuilder("A" + ".".repeat(size - 1) + ";");
+            for (int d = 1; d < size; d++) {
+                s.append(d > 1 ? "," : "").append((char) ('a' + d - 1)).append((char) ('a' + d)).append(d);
+            }
+            due("desks", text(x, 0, s.toString()), size);
+            due("wish", x.wish(size - 1, 0), true);
+            due("cheapest of " + size, x.cheapest(), size * (size - 1) / 2);
+            due("fewest of " + size, x.fewest(NONE), size - 1);
+            due("all of " + size, x.all(0), size);
+            due("ill of " + size, x.ill(0), 0);
+        }
+    }
+
     /** An office with so many laws, and a text on the tape. */
     private static Make lawful(int laws, String tape) {
         return () -> {
@@ -1565,6 +1585,14 @@ public final class BoundaryTests {
         says("3 a ring of six with a way of two between DESKS across (seven DESKS, eight DOORS)");
         leaves("it is", () -> office(THETA), DeskMoves::sort, 3);
         leaves("the other two across", () -> office("ABCDEF.;ab,bc,cd,de,ef,fa,cg,gf"), DeskMoves::sort, 3);
+        String[] shapes = {"ab,bc,cd,de,ef,fa,ag,gd", "ab,bc,cd,de,ef,fa,ag,gc", "ab,bc,cd,de,ef,fg,ga,ad", "ab,bc,cd,de,ef,fg,ga,ac"};
+        int[] kinds = {3, 4, 5, 5};
+        for (int i = 0; i < shapes.length; i++) {
+            for (int turn = 0; turn < 7; turn++) {
+                String s = "ABCDEF.;" + turned(shapes[i], turn);
+                answers(s, () -> office(s), DeskMoves::sort, kinds[i]);
+            }
+        }
         leaves("not across", () -> office("ABCDEF.;ab,bc,cd,de,ef,fa,ag,gc"), DeskMoves::sort, 4);
         leaves("beside", () -> office("ABCDEF.;ab,bc,cd,de,ef,fa,ag,gb"), DeskMoves::sort, 5);
         leaves("nine doors", () -> office(THETA + ",ad"), DeskMoves::sort, 5);
@@ -1582,6 +1610,15 @@ public final class BoundaryTests {
         leaves("four with all doors", () -> office("ABC.;ab,bc,cd,da,ac,bd"), DeskMoves::sort, 5);
         leaves("four with five doors", () -> office("ABC.;ab,bc,cd,da,ac"), DeskMoves::sort, 5);
         answers("laws left out", () -> ruled(THETA, "y:0"), DeskMoves::sort, 3);
+    }
+
+    /** The same doors with each letter so many further on, of seven. */
+    private static String turned(String doors, int turn) {
+        StringBuilder s = new StringBuilder();
+        for (char c : doors.toCharArray()) {
+            s.append(c == ',' ? c : (char) ('a' + (c - 'a' + turn) % 7));
+        }
+        return s.toString();
     }
 
     private static void becoming() {
@@ -2150,6 +2187,7 @@ public final class BoundaryTests {
         counting();
         illness();
         holding();
+        growing();
         sorting();
         becoming();
         worths();
